@@ -473,7 +473,7 @@ public final class JoinPlanner {
                 return;
             }
             trial.makeEmpty();
-            best.makeEmpty();
+            // Above every cost, so that the first order of all is taken in any case.
             leastCost = MOST_SIZE + 1;
             search(this, list, 0, 0, 1, 0);
             ready = true;

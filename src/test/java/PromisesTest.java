@@ -1,3 +1,5 @@
+import java.util.Arrays;
+
 /** Each promise by itself: ordinary inputs, the edges that the document names, and wrong inputs. */
 public final class PromisesTest {
     private static final int BAD = -1;
@@ -13,6 +15,7 @@ public final class PromisesTest {
 
     public static void main(String[] args) {
         constants();
+        example();
         newObject();
         insert();
         insertWhenFull();
@@ -21,6 +24,7 @@ public final class PromisesTest {
         pattern();
         clear();
         estimate();
+        numbersAtAnyPlaces();
         estimateIsRoundedUpOnce();
         plan();
         planOfEqualCosts();
@@ -33,6 +37,7 @@ public final class PromisesTest {
         rows();
         rowsAtMost();
         solutions();
+        solutionsOfOneVariableAtTwoPlaces();
         solutionsAtMost();
         solutionsGoByThePlan();
         value();
@@ -45,6 +50,25 @@ public final class PromisesTest {
         Due.is("BAD", JoinPlanner.BAD, BAD);
         Due.is("NO", JoinPlanner.NO, NO);
         Due.is("FULL", JoinPlanner.FULL, FULL);
+    }
+
+    /** What README.md shows. */
+    private static void example() {
+        JoinPlanner x = new JoinPlanner();
+        x.insert(1, 0, 2);
+        x.insert(2, 0, 3);
+        x.insert(2, 0, 4);
+        x.pattern(-1, 0, -2);
+        x.pattern(-2, 0, -3);
+        Due.is("README: estimate(1, 0b10)", x.estimate(1, 0b10), 2);
+        Due.is("README: plan(0)", x.plan(0), 1);
+        Due.is("README: cost()", x.cost(), 6);
+        x.use(0);
+        x.use(1);
+        Due.is("README: size(2)", x.size(2), 6);
+        Due.is("README: rows()", x.rows(), 5);
+        Due.is("README: solutions()", x.solutions(), 2);
+        Due.is("README: value(1, -3)", x.value(1, -3), 4);
     }
 
     private static void newObject() {
@@ -95,7 +119,11 @@ public final class PromisesTest {
     private static void insertWhenFull() {
         JoinPlanner x = new JoinPlanner();
         for (int i = 0; i < 640; i++) {
-            Due.is("2: insert of triple " + i, x.insert(i % 64, i / 64, i % 7), 1);
+            int n = i * 217 % 640;
+            Due.is("2: insert of triple " + n, x.insert(n % 64, n / 64, n % 7), 1);
+        }
+        for (int i = 0; i < 640; i++) {
+            Due.is("2: insert of triple " + i + " again", x.insert(i % 64, i / 64, i % 7), 0);
         }
         Due.is("2: insert of one that is there when full", x.insert(0, 0, 0), 0);
         Due.is("2: insert of a wrong one when full", x.insert(0, 0, 64), BAD);
@@ -225,6 +253,36 @@ public final class PromisesTest {
         Due.is("7: a pattern of numbers alone, not there", x.estimate(3, 255), 0);
         Due.is("7: remove(3, 5, 3)", x.remove(3, 5, 3), 1);
         Due.is("7: after remove", x.estimate(0, 1), 3);
+    }
+
+    private static void numbersAtAnyPlaces() {
+        JoinPlanner x = new JoinPlanner();
+        for (int a = 0; a < 4; a++) {
+            for (int b = 0; b < 5; b++) {
+                for (int c = 0; c < 6; c++) {
+                    x.insert(a, b, c);
+                }
+            }
+        }
+        int[] due = {120, 30, 24, 6, 20, 5, 4};
+        for (int places = 0; places < 7; places++) {
+            x.pattern((places & 1) == 0 ? -1 : 2, (places & 2) == 0 ? -2 : 2, (places & 4) == 0 ? -3 : 2);
+            Due.is("7: numbers at places " + places, x.estimate(0, 0), due[places]);
+            Due.is("7: numbers at places " + places + ", all known", x.estimate(0, 7), 1);
+            Due.is("14: numbers at places " + places, x.solutions(), due[places]);
+            x.clear();
+        }
+        for (int known = 0; known < 7; known++) {
+            // Each pattern of one triple makes a variable known.
+            x.pattern(-1, -2, -3);
+            for (int i = 0; i < 3; i++) {
+                if ((known >> i & 1) == 1) {
+                    x.pattern(i == 0 ? -1 : 2, i == 1 ? -2 : 2, i == 2 ? -3 : 2);
+                }
+            }
+            Due.is("14: variables " + known + " stand in other patterns too", x.solutions(), 120);
+            x.clear();
+        }
     }
 
     private static void estimateIsRoundedUpOnce() {
@@ -533,6 +591,23 @@ public final class PromisesTest {
         Due.is("14: solutions() of numbers alone", x.solutions(), 1);
         x.pattern(4, 4, 5);
         Due.is("14: solutions() of numbers alone, not there", x.solutions(), 0);
+    }
+
+    private static void solutionsOfOneVariableAtTwoPlaces() {
+        JoinPlanner x = new JoinPlanner();
+        for (int i = 0; i < 27; i++) {
+            x.insert(i / 9, i / 3 % 3, i % 3);
+        }
+        x.insert(0, 1, 9);
+        int[][] patterns = {{-1, -1, -2}, {-2, -1, -1}, {-1, -2, -1}, {-1, -1, -1}, {-3, -3, 9}, {-3, 1, -3}, {0, -3, -3}};
+        int[] due = {9, 9, 9, 3, 0, 3, 3};
+        for (int i = 0; i < patterns.length; i++) {
+            x.pattern(patterns[i][0], patterns[i][1], patterns[i][2]);
+            Due.is("14: solutions() of " + Arrays.toString(patterns[i]), x.solutions(), due[i]);
+            x.use(0);
+            Due.is("13: rows() of " + Arrays.toString(patterns[i]), x.rows(), due[i]);
+            x.clear();
+        }
     }
 
     private static void solutionsAtMost() {
