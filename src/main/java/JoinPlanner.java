@@ -549,8 +549,9 @@ public final class JoinPlanner {
             return firstFrom(fitting, count, key);
         }
 
+        /** Only for an index below the count. */
         boolean agrees(int index, int key) {
-            return index < count && fitting[index] >> openBits == key >> openBits;
+            return fitting[index] >> openBits == key >> openBits;
         }
 
         /** Only for an index that agrees with the row's key: the numbers of known variables are the same then. */
@@ -617,7 +618,7 @@ public final class JoinPlanner {
             }
             Step step = join.steps[depth];
             int key = step.keyFor(row);
-            for (int i = step.firstFor(key); step.agrees(i, key); i++) {
+            for (int i = step.firstFor(key); i < step.count && step.agrees(i, key); i++) {
                 join.total++;
                 if (join.total > MOST_ROWS) {
                     return;
