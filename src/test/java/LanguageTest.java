@@ -13,10 +13,12 @@ import java.util.regex.Pattern;
 /** What can be seen of LANGUAGE.md's rules in the program's text and in its classes. */
 public final class LanguageTest {
     private static final Set<String> FACE = new TreeSet<>(Arrays.asList(
-        "int BAD", "int NO", "int FULL", "JoinPlanner()",
-        "int insert(int, int, int)", "int remove(int, int, int)", "int triples()", "int pattern(int, int, int)",
-        "int clear()", "int estimate(int, int)", "int plan(int)", "long cost()", "int use(int)", "int drop()",
-        "long size(int)", "int rows()", "int solutions()", "int value(int, int)"));
+        "public static final int BAD", "public static final int NO", "public static final int FULL",
+        "public JoinPlanner()", "public int insert(int, int, int)", "public int remove(int, int, int)",
+        "public int triples()", "public int pattern(int, int, int)", "public int clear()",
+        "public int estimate(int, int)", "public int plan(int)", "public long cost()", "public int use(int)",
+        "public int drop()", "public long size(int)", "public int rows()", "public int solutions()",
+        "public int value(int, int)"));
     private static final String[] RULED_OUT = {
         "\\bthrow\\b", "\\bthrows\\b", "\\btry\\b", "\\bcatch\\b", "\\bfinally\\b", "\\bsynchronized\\b",
         "\\bassert\\b", "\\bpackage\\b", "->", "::", "\\bstatic\\s*\\{", "\\bprotected\\b", "\\bnative\\b",
@@ -52,15 +54,16 @@ public final class LanguageTest {
         Set<String> seen = new TreeSet<>();
         for (Field field : JoinPlanner.class.getDeclaredFields()) {
             if (!Modifier.isPrivate(field.getModifiers())) {
-                seen.add(field.getType() + " " + field.getName());
+                seen.add(Modifier.toString(field.getModifiers()) + " " + field.getType() + " " + field.getName());
             }
         }
         for (Constructor<?> constructor : JoinPlanner.class.getDeclaredConstructors()) {
-            seen.add("JoinPlanner" + types(constructor.getParameterTypes()));
+            seen.add(Modifier.toString(constructor.getModifiers()) + " JoinPlanner" + types(constructor.getParameterTypes()));
         }
         for (Method method : JoinPlanner.class.getDeclaredMethods()) {
             if (!Modifier.isPrivate(method.getModifiers())) {
-                seen.add(method.getReturnType() + " " + method.getName() + types(method.getParameterTypes()));
+                seen.add(Modifier.toString(method.getModifiers()) + " " + method.getReturnType() + " " + method.getName()
+                    + types(method.getParameterTypes()));
             }
         }
         Due.holds("the face is the document's: " + seen, seen.equals(FACE));

@@ -15,7 +15,6 @@ public final class PromisesTest {
 
     public static void main(String[] args) {
         constants();
-        example();
         newObject();
         insert();
         insertWhenFull();
@@ -50,25 +49,6 @@ public final class PromisesTest {
         Due.is("BAD", JoinPlanner.BAD, BAD);
         Due.is("NO", JoinPlanner.NO, NO);
         Due.is("FULL", JoinPlanner.FULL, FULL);
-    }
-
-    /** What README.md shows. */
-    private static void example() {
-        JoinPlanner x = new JoinPlanner();
-        x.insert(1, 0, 2);
-        x.insert(2, 0, 3);
-        x.insert(2, 0, 4);
-        x.pattern(-1, 0, -2);
-        x.pattern(-2, 0, -3);
-        Due.is("README: estimate(1, 0b10)", x.estimate(1, 0b10), 2);
-        Due.is("README: plan(0)", x.plan(0), 1);
-        Due.is("README: cost()", x.cost(), 6);
-        x.use(0);
-        x.use(1);
-        Due.is("README: size(2)", x.size(2), 6);
-        Due.is("README: rows()", x.rows(), 5);
-        Due.is("README: solutions()", x.solutions(), 2);
-        Due.is("README: value(1, -3)", x.value(1, -3), 4);
     }
 
     private static void newObject() {

@@ -7,7 +7,6 @@ public final class RefusedCallsTest {
     private static final int FULL = -3;
     private static final int MIN = Integer.MIN_VALUE;
     private static final int MAX = Integer.MAX_VALUE;
-    private static final int[] KNOWN = {0, 1, 2, 4, 8, 128, 255};
 
     private RefusedCallsTest() {
     }
@@ -52,27 +51,6 @@ public final class RefusedCallsTest {
         Build.useAll(x, 1);
     }
 
-    /** All answers that do not depend on an earlier solutions(), and the order and the patterns at last. */
-    private static String answers(Counted x) {
-        StringBuilder told = new StringBuilder();
-        told.append(x.triples()).append(' ').append(x.cost()).append(' ').append(x.rows());
-        for (int i = 0; i <= 6; i++) {
-            told.append(" | ").append(x.plan(i)).append(' ').append(x.size(i));
-            for (int known : KNOWN) {
-                told.append(' ').append(x.estimate(i, known));
-            }
-        }
-        int count = x.solutions();
-        told.append(" | ").append(count);
-        for (int i = 0; i <= Math.min(count, 8); i++) {
-            for (int variable = -1; variable >= -8; variable--) {
-                told.append(' ').append(x.value(i, variable));
-            }
-        }
-        told.append(" | ").append(x.insert(9, 9, 9)).append(' ').append(x.remove(9, 9, 9));
-        return told.append(' ').append(x.drop()).append(' ').append(x.clear()).toString();
-    }
-
     private static void refused(String name, Edge.Run before, Edge.Call call, long answer) {
         Counted without = new Counted();
         before.on(without);
@@ -80,8 +58,8 @@ public final class RefusedCallsTest {
         before.on(with);
         Due.is("refused, " + name, call.on(with), answer);
         Due.is("refused, " + name + ", again", call.on(with), answer);
-        String due = answers(without);
-        String got = answers(with);
+        String due = Told.all(without);
+        String got = Told.all(with);
         Due.holds("refused, " + name + ": afterwards " + got + ", due is " + due, got.equals(due));
     }
 
