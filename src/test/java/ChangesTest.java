@@ -5,8 +5,10 @@
 public final class ChangesTest {
     private static final int BAD = -1;
     private static final int NO = -2;
-    private static final int[][] TRIPLES = {{1, 0, 2}, {2, 0, 3}, {2, 0, 4}, {4, 0, 4}, {63, 1, 63}, {0, 1, 0}, {3, 1, 63}};
-    private static final int[][] PATTERNS = {{-1, 0, -2}, {-2, 0, -3}, {-4, 1, -4}, {-3, 0, 4}, {-8, 1, 63}, {2, 0, -7}};
+    private static final int[][] TRIPLES = {
+        {1, 0, 2}, {2, 0, 3}, {2, 0, 4}, {4, 0, 4}, {63, 1, 63}, {0, 1, 0}, {3, 1, 63}, {2, 1, 4}};
+    private static final int[][] PATTERNS = {
+        {-1, 0, -2}, {-2, 0, -3}, {-4, 1, -4}, {-3, 0, 4}, {-8, -5, 63}, {2, -6, 4}};
 
     private ChangesTest() {
     }
@@ -134,7 +136,7 @@ public final class ChangesTest {
         Counted x = state(TRIPLES.length, 6);
         int[] order = {1, 3, 0, 4, 5, 2};
         // Pattern 1 has 4 triples; 3 has 2, both with another number for -3; 0 has 4, three different ones for -2.
-        long[] sizes = {4, 4, 8, 16, 32, 96};
+        long[] sizes = {4, 4, 8, 16, 32, 128};
         // In truth 4, then 3, 3, 3 * 2, 6 * 2 and 12 * 2 rows come.
         int[] rows = {4, 7, 10, 16, 28, 52};
         for (int i = 0; i < order.length; i++) {

@@ -290,6 +290,23 @@ public final class JoinEdgesTest {
                 edge.due("value(0, " + other + ")", x -> x.value(0, asked), other == variable ? 9 : BAD);
             }
         }
+        Edge several = new Edge("Promise 15, \"a variable that stands in no pattern\", of three", x -> {
+            x.insert(9, 8, 7);
+            x.pattern(-2, 8, 7);
+            x.pattern(9, -7, -4);
+            x.pattern(-4, 8, -4);
+            x.pattern(9, 8, -5);
+            x.clear();
+            x.pattern(-2, 8, 7);
+            x.pattern(9, -7, -4);
+            x.pattern(9, 8, -6);
+            x.solutions();
+        });
+        int[] numbers = {BAD, 9, BAD, 7, BAD, 7, 8, BAD};
+        for (int i = 0; i < numbers.length; i++) {
+            int asked = -1 - i;
+            several.due("value(0, " + asked + ")", x -> x.value(0, asked), numbers[i]);
+        }
         new Edge("Promise 15, \"a variable that stands in no pattern\", any more", x -> {
             x.insert(9, 9, 9);
             x.pattern(-1, 9, -2);

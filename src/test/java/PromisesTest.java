@@ -21,6 +21,7 @@ public final class PromisesTest {
         remove();
         triples();
         pattern();
+        patternHasItsItems();
         clear();
         estimate();
         numbersAtAnyPlaces();
@@ -182,6 +183,35 @@ public final class PromisesTest {
         Due.is("5: the order after FULL", x.drop(), 1);
         Due.is("5: clear()", x.clear(), 6);
         Due.is("5: pattern after clear()", x.pattern(-4, 2, -4), 0);
+    }
+
+    /** Each pattern keeps its own items at its own places, whatever comes after it. */
+    private static void patternHasItsItems() {
+        JoinPlanner x = new JoinPlanner();
+        int[][] triples = {{1, 40, 50}, {1, 41, 51}, {30, 2, 50}, {31, 2, 51}, {32, 2, 52}, {30, 40, 3}, {31, 41, 3},
+            {32, 42, 3}, {33, 43, 3}, {1, 2, 3}, {5, 2, 3}, {1, 5, 3}, {1, 6, 3}, {1, 2, 5}, {1, 2, 6}, {1, 2, 7}};
+        for (int[] triple : triples) {
+            x.insert(triple[0], triple[1], triple[2]);
+        }
+        int[][] patterns = {{1, -1, -2}, {-1, 2, -2}, {-1, -2, 3}, {1, 2, -3}, {-3, 2, 3}, {1, -3, 3}};
+        int[] due = {8, 8, 8, 4, 2, 3};
+        for (int i = 0; i < patterns.length; i++) {
+            Due.is("5: " + Arrays.toString(patterns[i]), x.pattern(patterns[i][0], patterns[i][1], patterns[i][2]), i);
+            for (int before = 0; before <= i; before++) {
+                Due.is("5: triples of pattern " + before, x.estimate(before, 0), due[before]);
+            }
+        }
+        // In pattern 0 five different numbers stand where -1 does, and six where -2 does.
+        Due.is("5: -1 at place 1 of pattern 0", x.estimate(0, 0b001), 2);
+        Due.is("5: -2 at place 2 of pattern 0", x.estimate(0, 0b010), 2);
+        Due.is("5: no -3 in pattern 0", x.estimate(0, 0b100), 8);
+        x.clear();
+        x.pattern(-3, -1, 51);
+        Due.is("5: solutions() of (-3, -1, 51)", x.solutions(), 2);
+        Due.is("5: -1 stands at place 1", x.value(0, -1), 2);
+        Due.is("5: -3 stands at place 0", x.value(0, -3), 31);
+        Due.is("5: -1 stands at place 1, again", x.value(1, -1), 41);
+        Due.is("5: -3 stands at place 0, again", x.value(1, -3), 1);
     }
 
     private static void clear() {
